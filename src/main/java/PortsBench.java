@@ -378,7 +378,7 @@ public final class PortsBench {
 
         /** For p, q and r that fit one limb each; r is above 0. */
         void draftSmall(int tone, int entry, int p, int q, int r) {
-            long shared = Acts.shortGcd(Acts.shortGcd(r, Math.abs(p)), Math.abs(q));
+            long shared = Whole.shortGcd(Whole.shortGcd(r, Math.abs(p)), Math.abs(q));
             int at = place(0, tone, entry);
             for (int k = 0; k < NUMBER; k++) {
                 draft[at + k] = 0;
@@ -433,8 +433,8 @@ public final class PortsBench {
             Gauss spareGauss = new Gauss(spareWhole);
             shelf = shelfToUse;
             lowest = new Lowest(shelf.draft, spareWhole);
-            a = newRatios(spareGauss, spareWhole);
-            b = newRatios(spareGauss, spareWhole);
+            a = Ratio.four(spareGauss, spareWhole);
+            b = Ratio.four(spareGauss, spareWhole);
             one = new Ratio(spareGauss, spareWhole);
             quarter = new Ratio(spareGauss, spareWhole);
             e = new Ratio(spareGauss, spareWhole);
@@ -442,42 +442,13 @@ public final class PortsBench {
             g = new Ratio(spareGauss, spareWhole);
             t = new Ratio(spareGauss, spareWhole);
             z = new Ratio(spareGauss, spareWhole);
-            rows = newGausses(12, spareWhole);
-            answers = newGausses(4, spareWhole);
+            rows = Gauss.row(12, spareWhole);
+            answers = Gauss.row(4, spareWhole);
             minor = new Gauss(spareWhole);
             term = new Gauss(spareWhole);
             square = new Gauss(spareWhole);
             one.putSmall(1, 1);
             quarter.putSmall(1, 4);
-        }
-
-        static Ratio[] newRatios(Gauss spareGauss, Whole spareWhole) {
-            Ratio[] made = new Ratio[ENTRIES];
-            for (int k = 0; k < made.length; k++) {
-                made[k] = new Ratio(spareGauss, spareWhole);
-            }
-            return made;
-        }
-
-        static Gauss[] newGausses(int length, Whole spareWhole) {
-            Gauss[] made = new Gauss[length];
-            for (int k = 0; k < made.length; k++) {
-                made[k] = new Gauss(spareWhole);
-            }
-            return made;
-        }
-
-        /** For x, y from 0 to below 10 to the 18. */
-        static long shortGcd(long x, long y) {
-            long greater = x;
-            long less = y;
-            // Below 10 to the 18 no two wholes need a hundred rounds.
-            for (int round = 0; round < 100 && less != 0; round++) {
-                long rest = greater % less;
-                greater = less;
-                less = rest;
-            }
-            return greater;
         }
 
         void start(int c) {
@@ -670,7 +641,7 @@ public final class PortsBench {
 
         Judge() {
             Whole spareWhole = new Whole();
-            s = Acts.newRatios(new Gauss(spareWhole), spareWhole);
+            s = Ratio.four(new Gauss(spareWhole), spareWhole);
             mirrored = new Gauss(spareWhole);
             under = new Gauss(spareWhole);
             ofFirst = new Gauss(spareWhole);
@@ -709,19 +680,20 @@ public final class PortsBench {
                 s[entry].load(cells, at + entry * NUMBER);
             }
             // A box with one port has 0 where the others would stand: so its lack is 1 less its size.
-            setLack(lackOfFirst, s[0], s[2]);
+            setSizes(s[0], s[2]);
+            setLack(lackOfFirst);
             lackOfSecond.clear();
             crossing.clear();
             if (ports == 2) {
-                setLack(lackOfSecond, s[1], s[3]);
+                setSizes(s[1], s[3]);
+                setLack(lackOfSecond);
                 setCrossing();
             }
             lacks.product(lackOfFirst, lackOfSecond);
         }
 
-        /** How much the sizes of x and y lack to 1. */
-        private void setLack(Whole into, Ratio x, Ratio y) {
-            setSizes(x, y);
+        /** How much the two sizes lack to 1. */
+        private void setLack(Whole into) {
             into.product(leftUnder, rightUnder);
             into.sum(into, left, -1);
             into.sum(into, right, -1);
@@ -757,6 +729,14 @@ public final class PortsBench {
             over = new Gauss(spareWhole);
             under = new Gauss(spareWhole);
             spare = spareGauss;
+        }
+
+        static Ratio[] four(Gauss spareGauss, Whole spareWhole) {
+            Ratio[] made = new Ratio[ENTRIES];
+            for (int k = 0; k < made.length; k++) {
+                made[k] = new Ratio(spareGauss, spareWhole);
+            }
+            return made;
         }
 
         void putSmall(int p, int r) {
@@ -806,6 +786,14 @@ public final class PortsBench {
             re = new Whole();
             im = new Whole();
             spare = spareWhole;
+        }
+
+        static Gauss[] row(int length, Whole spareWhole) {
+            Gauss[] made = new Gauss[length];
+            for (int k = 0; k < made.length; k++) {
+                made[k] = new Gauss(spareWhole);
+            }
+            return made;
         }
 
         void putSmall(int value) {
@@ -904,8 +892,8 @@ public final class PortsBench {
             if (greater.compareLimbs(less) < 0) {
                 swap();
             }
-            // Each round takes a digit away at least, so a thousand are more than ROOM limbs can need.
-            for (int round = 0; round < 1000; round++) {
+            // Two rounds halve at least, and ROOM limbs hold below 2400 binary digits.
+            for (int round = 0; round < 5000; round++) {
                 if (less.sign == 0) {
                     return true;
                 }
@@ -913,7 +901,7 @@ public final class PortsBench {
                     return false;
                 }
                 if (greater.size <= 2) {
-                    greater.putSmall(Acts.shortGcd(greater.head(), less.head()));
+                    greater.putSmall(Whole.shortGcd(greater.head(), less.head()));
                     return true;
                 }
                 if (!shareByHeads()) {
@@ -1011,6 +999,19 @@ public final class PortsBench {
             size = 0;
         }
 
+        /** For x, y from 0 to below 10 to the 18. */
+        static long shortGcd(long x, long y) {
+            long greater = x;
+            long less = y;
+            // Below 10 to the 18 no two wholes need a hundred rounds.
+            for (int round = 0; round < 100 && less != 0; round++) {
+                long rest = greater % less;
+                greater = less;
+                less = rest;
+            }
+            return greater;
+        }
+
         /** For 0 to below 10 to the 18. */
         void putSmall(long value) {
             limbs[0] = (int) (value % BASE);
@@ -1055,7 +1056,7 @@ public final class PortsBench {
             return high * BASE + middle + low / BASE;
         }
 
-        private void trim(int most, int side) {
+        void trim(int most, int side) {
             int k = most < ROOM ? most : ROOM;
             while (k > 0 && limbs[k - 1] == 0) {
                 k--;
