@@ -164,7 +164,6 @@ public final class PortsBench {
         if (!shelf.hasBoxWith(c, 2) || n < 1 || n > MOST_STUFF || d < 1 || d > MOST_STUFF) {
             return BAD;
         }
-        shelf.startDraft(c);
         for (int tone = 0; tone < TONES; tone++) {
             shelf.draftSmall(tone, entry(0, 0), n - d, 0, n + d);
             shelf.draftSmall(tone, entry(1, 1), d - n, 0, n + d);

@@ -7,7 +7,7 @@ import java.util.List;
 /** Long runs of calls, each answer held against a plain model that does what the document says word by word. */
 public final class ModelTest {
     private static final int CALLS = 512;
-    private static final String[] KINDS = {"small", "unit", "great", "grow", "fraction"};
+    private static final String[] KINDS = {"small", "unit", "great", "grow", "fraction", "lossless", "vast", "near", "trip"};
 
     private static long seed;
     private static int wrong;
@@ -134,6 +134,12 @@ public final class ModelTest {
                         {0, 0, 7}, {3, 0, 5}, {4, 0, 5}, {0, 4, 5}, {-4, 0, 5}, {5, 12, 13}, {1, 1, 2}, {1, 0, 2}, {24, 7, 25}};
                     return of[next(of.length)];
                 }
+                case "trip":
+                    return new int[] {next(601) - 300, next(601) - 300, 1 + next(300)};
+                case "near":
+                    return new int[] {1 + next(3), next(3) == 0 ? next(3) : 0, 1 + next(next(2) == 0 ? 10 : 1000000)};
+                case "vast":
+                    return next(4) == 0 ? round() : new int[] {next(2000001) - 1000000, next(2000001) - 1000000, 1 + next(1000000)};
                 case "great":
                     return new int[] {next(2000001) - 1000000, next(2000001) - 1000000, 1 + next(1000000)};
                 case "grow":
@@ -144,7 +150,29 @@ public final class ModelTest {
             }
         }
 
+        /** Numbers whose limbs are all nines or all noughts when they are multiplied. */
+        int[] round() {
+            return new int[] {pick(1000000, 999999, -999999, 1, 1000, 0), pick(0, 0, 1, -1000000, 999999),
+                pick(1000000, 999999, 1, 1000, 500000, 2)};
+        }
+
         void fill(int box, int i, int j) {
+            if (kind.equals("lossless") && box >= 0 && box < 5 && next(4) != 0) {
+                fillLossless(box);
+                return;
+            }
+            if (kind.equals("vast") && box > 1 && box < 9 && next(2) == 0) {
+                fillVast(box);
+                return;
+            }
+            if (kind.equals("near") && box > 1 && box < 5 && next(2) == 0) {
+                fillNear(box);
+                return;
+            }
+            fillNumber(box, i, j);
+        }
+
+        void fillNumber(int box, int i, int j) {
             int[] n = number();
             if (next(3) == 0) {
                 int tone = tone();
@@ -156,7 +184,117 @@ public final class ModelTest {
             }
         }
 
+        /** a u, - b v* w; b v, a u* w: with a, b of one right triangle, u, v, w of size 1, this loses nothing. */
+        void fillLossless(int box) {
+            int[][] sides = {{3, 4, 5}, {4, 3, 5}, {5, 12, 13}, {1, 0, 1}, {0, 1, 1}, {-7, 24, 25}};
+            int[] side = sides[next(sides.length)];
+            Num a = Num.of(side[0], 0, side[2]);
+            Num b = Num.of(side[1], 0, side[2]);
+            Num u = ofSizeOne();
+            Num v = ofSizeOne();
+            Num w = ofSizeOne();
+            Num[] s = {a.times(u), Num.ZERO.minus(b.times(v.mirrored()).times(w)), b.times(v), a.times(u.mirrored()).times(w)};
+            int less = next(3) == 0 ? next(4) : -1;
+            for (int k = 0; k < 4; k++) {
+                Num n = k == less ? s[k].times(Num.of(pick(1, 999, 1, 0, 1001), pick(0, 0, 1), pick(1, 1000, 2))) : s[k];
+                int p = n.p.intValueExact();
+                int q = n.q.intValueExact();
+                int r = n.r.intValueExact();
+                due("all(" + box + ", " + k / 2 + ", " + k % 2 + ", " + p + ", " + q + ", " + r + ")",
+                    bench.all(box, k / 2, k % 2, p, q, r), model.all(box, k / 2, k % 2, p, q, r));
+            }
+            for (int what = 1; what < 4; what++) {
+                int tone = next(4);
+                due("is(" + box + ", " + tone + ", " + what + ")", bench.is(box, tone, what), model.is(box, tone, what));
+            }
+        }
+
+        static Num ofSizeOne() {
+            int[][] of = {{1, 0, 1}, {0, 1, 1}, {-1, 0, 1}, {0, -1, 1}, {3, 4, 5}, {-4, 3, 5}, {5, -12, 13}};
+            int[] n = of[next(of.length)];
+            return Num.of(n[0], n[1], n[2]);
+        }
+
+        /** Numbers of some 24 digits, by what goes through boxes in a row; boxes 0 and 1 serve for it. */
+        void fillVast(int box) {
+            for (int k = 0; k < 4; k++) {
+                int a = k % 2;
+                due("all", bench.all(a, 0, 0, 0, 0, 1), model.all(a, 0, 0, 0, 0, 1));
+                due("all", bench.all(a, 1, 1, 0, 0, 1), model.all(a, 1, 1, 0, 0, 1));
+                fillNumber(a, 0, 1);
+                fillNumber(a, 1, 0);
+                if (k == 1) {
+                    due("join", bench.join(0, 0, 1), model.join(0, 0, 1));
+                } else if (k == 3) {
+                    due("join", bench.join(1, 1, 0), model.join(1, 1, 0));
+                }
+                if (k == 1) {
+                    due("copy", bench.copy(2, 0), model.copy(2, 0));
+                }
+            }
+            int one = 5 + next(4);
+            due("all", bench.all(one, 0, 0, 1, 0, 1), model.all(one, 0, 0, 1, 0, 1));
+            due("close", bench.close(one, 1, one), model.close(one, 1, one));
+            int into = 2 + next(3);
+            due("all", bench.all(0, 0, 0, 1, 0, 1), model.all(0, 0, 0, 1, 0, 1));
+            due("join", bench.join(into, 1, 0), model.join(into, 1, 0));
+            due("turn", bench.turn(1, into), model.turn(1, into));
+            int other = 2 + next(3);
+            due("join", bench.join(other, other, 1), model.join(other, other, 1));
+            due("join", bench.join(other, into, 1), model.join(other, into, 1));
+            look();
+        }
+
+        /** A number of small wholes and next to nothing: what is shared is found by quotients that a few digits do not tell. */
+        void fillNear(int box) {
+            for (int a = 0; a < 2; a++) {
+                for (int j = 0; j < 2; j++) {
+                    due("all", bench.all(a, j, j, 0, 0, 1), model.all(a, j, j, 0, 0, 1));
+                    int p = 1 + next(2);
+                    int q = next(6) == 0 ? next(3) : 0;
+                    int r = pick(1000000, 999983, 1 + next(1000000), 1 + next(1000));
+                    due("all", bench.all(a, j, 1 - j, p, q, r), model.all(a, j, 1 - j, p, q, r));
+                }
+            }
+            due("join", bench.join(0, 0, 1), model.join(0, 0, 1));
+            if (next(2) == 0) {
+                due("join", bench.join(0, 0, 1), model.join(0, 0, 1));
+            }
+            int p = next(12) - 6;
+            int q = next(4) == 0 ? next(12) - 6 : 0;
+            int r = 1 + next(7);
+            due("all", bench.all(0, 0, 0, p, q, r), model.all(0, 0, 0, p, q, r));
+            fillNumber(1, 0, 0);
+            due("join", bench.join(box, 0, 1), model.join(box, 0, 1));
+            for (int what = 0; what < 6; what++) {
+                partOf(box, next(4), 0, 0, what);
+            }
+        }
+
+        /** An instrument, what it reads of three known ones, and what is learned of these; a box joined and taken off. */
+        void roundTrip() {
+            int a = next(4);
+            int known = 5;
+            int read = 8;
+            for (int k = 0; k < 3; k++) {
+                due("close", bench.close(read + k, a, known + k), model.close(read + k, a, known + k));
+            }
+            due("learn(4, 5, 8)", bench.learn(4, known, read), model.learn(4, known, read));
+            int m = read + next(3);
+            due("correct", bench.correct(m, 4, m), model.correct(m, 4, m));
+            due("same", bench.same(m, m - 3), model.same(m, m - 3));
+            int b = next(4);
+            due("join", bench.join(4, a, b), model.join(4, a, b));
+            int side = next(2);
+            int off = side == 0 ? a : b;
+            due("takeOff", bench.takeOff(4, 4, off, side), model.takeOff(4, 4, off, side));
+            due("same", bench.same(4, a + b - off), model.same(4, a + b - off));
+        }
+
         void call() {
+            if (kind.equals("trip") && next(4) == 0) {
+                roundTrip();
+            }
             int which = next(100);
             if (which < 15) {
                 int box = anyBox();
