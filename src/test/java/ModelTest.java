@@ -69,6 +69,10 @@ public final class ModelTest {
 
         void due(String call, long got, long want) {
             calls++;
+            if (calls > CALLS) {
+                // A row of calls may go beyond what the document promises: what these answer is free.
+                return;
+            }
             if (want < 0 && want > -6) {
                 answered[(int) -want]++;
             }
