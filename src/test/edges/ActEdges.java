@@ -515,6 +515,12 @@ final class ActEdges extends Edges {
         holds(2, 3, 0, 0, -68, 768, 701);
         due(0, x.close(3, 0, 2));
         due(1, x.same(3, 1));
+        // What is read on the other side of 0 than what the instrument sends back itself.
+        two(0, n(-1, 1, 3), n(1), n(1), n(0));
+        one(1, n(2, -1, 3));
+        due(0, x.correct(2, 0, 1));
+        holdsAtAll(2, 0, 0, 3, -2, 3);
+        a(0);
         // What is read of what sends nothing back; and a 0 with E01 0 unless E11 helps.
         one(1, A00);
         due(0, x.correct(2, 0, 1));

@@ -168,6 +168,18 @@ final class AskEdges extends Edges {
         isAt(0, 1, 0, 0);
         entry(0, 1, 1, n(499999, 0, 1000000));
         isAt(0, 1, 1, 0);
+        // Just as great, with unlike r: what comes in one way alone comes out, as one wave.
+        int[][][] oneWave = {{{3, 0, 13}, {36, 0, 65}, {4, 0, 13}, {48, 0, 65}},
+            {{1, -2, 5}, {2, 0, 5}, {8, 4, 15}, {0, 8, 15}}, {{24, 0, 85}, {32, 0, 85}, {9, 0, 17}, {12, 0, 17}}};
+        for (int[][] s : oneWave) {
+            for (int k = 0; k < 4; k++) {
+                two(0, s[0], s[1], s[2], s[3]);
+                isAt(0, 0, 1, 0);
+                // Each a little more.
+                entry(0, k / 2, k % 2, n(s[k][0] * 1001, s[k][1] * 1001, s[k][2] * 1000));
+                isAt(0, 0, 0, 0);
+            }
+        }
         // Mirrored the two parts cancel, and else they do not; and the other way about.
         two(0, n(3, 0, 5), n(0, 4, 5), n(0, 4, 5), n(3, 0, 5));
         isAt(0, 1, 1, 1);
@@ -186,6 +198,15 @@ final class AskEdges extends Edges {
     private void lossless() {
         told(TERMS, "LOSSLESS: these all are 0.");
         boxes(2, 1);
+        // What was told of one box is nothing to the next.
+        one(1, n(1));
+        two(0, n(3, 0, 5), n(4, 0, 5), n(4, 0, 5), n(3, 0, 5));
+        isAt(0, 1, 0, 0);
+        isAt(1, 1, 1, 1);
+        two(0, n(0), n(0), n(0), n(1));
+        isAt(0, 1, 1, 0);
+        isAt(1, 1, 1, 1);
+        one(1, n(0));
         // One of the three alone is not 0.
         two(0, n(1), n(0), n(0), n(1));
         isAt(0, 1, 1, 1);
@@ -606,6 +627,12 @@ final class AskEdges extends Edges {
         due(0, x.all(0, 0, 0, 1000000, 0, 999999));
         due(0, x.set(0, 2, 0, 0, 999999, 0, 999998));
         due(2, x.worst(0, 0, 0));
+        // What stands elsewhere is nothing to it.
+        two(1, n(1000000), n(1000000), n(1000000), n(1000000));
+        due(2, x.worst(0, 0, 0));
+        due(0, x.set(1, 1, 0, 1, 1, 0, 1));
+        due(0, x.set(1, 0, 0, 1, 1, 0, 1));
+        due(2, x.worst(1, 0, 1));
 
         told(20, "BAD.");
         boxes(2, 1);

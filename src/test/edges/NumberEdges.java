@@ -4,13 +4,17 @@ final class NumberEdges extends Edges {
         signOfR();
         lowestTerms();
         lowestTermsOfActs();
+        lowestTermsOfLongOnes();
         nothing();
         lastCall();
         greatestP();
+        greatestByMore();
         greatestR();
         bigInEachPlace();
         bigOfOnePort();
         greatOnTheWay();
+        greatAndLearned();
+        greatestAndLearned();
         tonesAndBoxes();
         whichWay();
         end();
@@ -80,6 +84,48 @@ final class NumberEdges extends Edges {
         holds(2, 3, 0, 0, 10, 15, 6);
         due(0, x.step(3, 3, 9));
         holdsTwo(3, 2, n(-1, 0, 2), n(3, 0, 2), n(1, 0, 2), n(1, 0, 2));
+    }
+
+    /** One port: the digits come six at a time, by what adds six more to a million times what was; box t serves for it. */
+    private void build(int box, int t, int... sixDigits) {
+        build(box, t, sixDigits, new int[sixDigits.length]);
+    }
+
+    private void build(int box, int t, int[] ofP, int[] ofQ) {
+        one(box, n(ofP[0], ofQ[0], 1));
+        for (int k = 1; k < ofP.length; k++) {
+            two(t, n(ofP[k], ofQ[k], 1), n(1000000), n(1), n(0));
+            due(0, x.close(box, t, box));
+        }
+    }
+
+    /** A number of 24 digits times one of 19 by that one: where it is shortened, the first digits tell a digit too much. */
+    private void lowestTermsOfLongOnes() {
+        told(HEAD, "in lowest terms (no whole above 1 divides all three");
+        boxes(1, 1, 1, 1, 1, 1, 2, 2, 2, 1);
+        one(1, n(1));
+        one(2, n(-1));
+        build(4, 6, 1, 0, 0, 1);
+        build(5, 6, -1, 0, 0, -1);
+        due(0, x.learn(7, 0, 3));
+        holds(7, 2, 1, 0, "1000000000000000001", "0", "1");
+        due(0, x.correct(4, 7, 1));
+        due(0, x.correct(5, 7, 2));
+        due(0, x.learn(8, 0, 3));
+        holds(8, 2, 1, 0, "1", "0", "1000000000000000001");
+        due(0, x.turn(8, 8));
+        due(0, x.join(8, 7, 8));
+        build(9, 6, 123456, 999999, 999999, 999999);
+        due(0, x.close(4, 8, 9));
+        holds(4, 0, 0, 0, "123456999999999999999999", "0", "1");
+        // And as r: -1 by it. Boxes 3, 4, 5 are 0, it, and less than 0 by as much: learned is what makes it of 1.
+        due(0, x.copy(4, 9));
+        two(6, n(0), n(1), n(-1), n(0));
+        due(0, x.close(5, 6, 4));
+        due(0, x.learn(7, 0, 3));
+        due(0, x.correct(9, 7, 2));
+        due(0, x.close(4, 8, 9));
+        holds(4, 1, 0, 0, "-1", "0", "123456999999999999999999");
     }
 
     private void nothing() {
@@ -154,6 +200,29 @@ final class NumberEdges extends Edges {
         tooBig(n(0, 1, 3), n(0, -1, 1));
         due(acts, x.count(1));
         where(NONE, NONE);
+    }
+
+    /** Beyond by 10 to the 9, 10 to the 12, 10 to the 15 and 10 to the 18: not in the last digits alone. */
+    private void greatestByMore() {
+        int[] more = {1000, 1000000, 1000000, 1000000};
+        int[] times = {1, 1, 1000, 1000000};
+        for (int k = 0; k < more.length; k++) {
+            told(TERMS, "beyond 1000000000000000000000000 (10 to the 24);");
+            boxes(2, 2, 1, 1);
+            two(0, n(0), n(more[k]), n(1000000), n(0));
+            two(1, n(times[k]), n(1000000), n(1000000), n(0));
+            due(0, x.join(0, 0, 1));
+            // S00 is as much as it is to be beyond; what goes through and comes back is 10 to the 24 with this.
+            entry(0, 0, 1, n(1000000));
+            one(2, n(1000000));
+            due(BIG, x.close(3, 0, 2));
+            holdsAtAll(3, 0, 0, 0, 0, 1);
+            one(2, n(-1000000));
+            due(0, x.close(3, 0, 2));
+            String less = "-" + new java.math.BigInteger(E24).subtract(
+                java.math.BigInteger.valueOf(1000000L * more[k] * times[k]));
+            holdsAtAll(3, 0, 0, less, "0", "1");
+        }
     }
 
     private void closed(int box, int[] s00, int[] k, String p, String q) {
@@ -276,6 +345,61 @@ final class NumberEdges extends Edges {
         due(0, x.join(0, 0, 7));
         holds(0, 1, 0, 1, 1, 0, 1);
         holds(0, 1, 1, 0, 1, 0, 1);
+    }
+
+    /** Of known ones with six digits is read what has 24; in between are some 400. */
+    private void greatAndLearned() {
+        for (int round = 0; round < 8; round++) {
+            told(TERMS, "what is met on the way may be as great as it likes.");
+            boxes(2, 1, 1, 1, 1, 1, 1, 2, 1);
+            two(0, n(3, -5, 1), n(1), n(1), n(0));
+            for (int tone = 0; tone < 4; tone++) {
+                int odd = 4 * round + tone;
+                due(0, x.set(0, tone, 1, 1, 799999 - 7 * odd, 1 - 699983 + 11 * odd, 899981 - odd));
+                for (int k = 0; k < 3; k++) {
+                    due(0, x.set(1 + k, tone, 0, 0, 599999 - 1000 * k - odd, 699973 - 99 * k - odd, 899999 - 2 * odd - k));
+                }
+            }
+            for (int k = 0; k < 3; k++) {
+                due(0, x.close(4 + k, 0, 1 + k));
+            }
+            due(0, x.learn(7, 1, 4));
+            due(1, x.same(7, 0));
+            for (int k = 0; k < 3; k++) {
+                due(0, x.correct(8, 7, 4 + k));
+                due(1, x.same(8, 1 + k));
+            }
+        }
+    }
+
+    /** Known ones and what is read of these have 24 digits in p, q and r; in between are some 600. */
+    private void greatestAndLearned() {
+        for (int round = 0; round < 4; round++) {
+            told(TERMS, "what is met on the way may be as great as it likes.");
+            boxes(1, 1, 1, 1, 1, 1, 2, 2, 2, 1);
+            int odd = 2 * round;
+            build(4, 6, 123456 - odd, 999999 - odd, 998877 + odd, 999989);
+            two(6, n(0), n(1), n(-1), n(0));
+            due(0, x.close(5, 6, 4));
+            one(0, n(0));
+            one(1, n(1));
+            one(2, n(-1));
+            // Of 0, 1 and -1 is read 0, R and - R: box 7 divides by R what it undoes.
+            due(0, x.learn(7, 0, 3));
+            for (int k = 0; k < 3; k++) {
+                build(k, 6, new int[] {9999 + 100000 * k - odd, 999998 - k, 987654 + odd, 999995 - k},
+                    new int[] {-99998 + 90000 * (k % 2), -999989 + odd, -999997, -989796 + k});
+                due(0, x.correct(k, 7, k));
+            }
+            two(8, n(1, 2, 7), n(1), n(3, -4, 7), n(0));
+            for (int k = 0; k < 3; k++) {
+                due(0, x.close(3 + k, 8, k));
+            }
+            due(0, x.learn(7, 0, 3));
+            due(1, x.same(7, 8));
+            due(0, x.correct(9, 7, 4));
+            due(1, x.same(9, 1));
+        }
     }
 
     private void tonesAndBoxes() {

@@ -38,6 +38,7 @@ final class RefusalEdges extends Edges {
             badBeforeNo(divisor);
         }
         bigOfEachAct();
+        rightAfterBig();
         divisorsInOrder();
         tonesBeforeDivisors();
         firstOfSeveral();
@@ -265,6 +266,57 @@ final class RefusalEdges extends Edges {
         }
         due(BIG, x.time(3, 2, 0, 0));
         holdsAtAll(3, 0, 0, 0, 0, 1);
+    }
+
+    /** What was too great, or half made when a divisor was 0, leaves nothing in what is made next. */
+    private void rightAfterBig() {
+        Call[] acts = {c -> x.join(5, 3, 3), c -> x.takeOff(5, 3, 3, 0), c -> x.takeOff(5, 3, 3, 1), c -> x.learn(5, 6, 6),
+            c -> x.close(9, 3, 6), c -> x.correct(9, 3, 6), c -> x.time(9, 6, 0, 0), c -> x.copy(9, 6), c -> x.turn(5, 3),
+            c -> x.step(5, 2, 1), c -> x.set(9, 0, 0, 0, 1, 1, 7), c -> x.all(9, 0, 0, 1, 1, 7)};
+        for (Call act : acts) {
+            told(TERMS, "nothing changes then (but where(), by NO).");
+            boxes(2, 2, 2, 2, 2, 2, 1, 1, 1, 1, 1, 1);
+            two(3, n(1, 0, 3), n(1, 0, 2), n(1, 1, 2), n(1, 0, 5));
+            one(6, n(1));
+            one(7, n(1, 0, 2));
+            one(8, n(1, 2, 3));
+            due(0, act.at(0));
+            due(0, x.copy(4, 5));
+            due(0, x.copy(10, 9));
+            due(0, x.copy(5, 1));
+            due(0, x.copy(9, 11));
+            powers(0, n(1000000), 2);
+            entry(0, 1, 1, n(1));
+            due(BIG, x.join(2, 0, 0));
+            due(0, act.at(0));
+            due(1, x.same(4, 5));
+            due(1, x.same(10, 9));
+            due(1, x.undo());
+            // At tone 3 alone 1 - 1 is 0, after the other tones are made.
+            due(0, x.set(1, 3, 0, 0, 1, 0, 1));
+            due(NO, x.join(2, 0, 1));
+            due(0, act.at(0));
+            due(1, x.same(4, 5));
+            due(1, x.same(10, 9));
+        }
+
+        told(TERMS, "nothing changes then (but where(), by NO).");
+        boxes(2, 2, 1, 1, 1);
+        // What has one port is the same as another that came about otherwise.
+        powers(0, n(1000000), 2);
+        one(2, n(1));
+        due(BIG, x.join(1, 0, 0));
+        two(0, n(1, 0, 2), n(1), n(1, 0, 4), n(1, 0, 2));
+        due(0, x.close(3, 0, 2));
+        due(1, x.same(3, 2));
+        due(0, x.step(1, 3, 1));
+        due(0, x.correct(3, 0, 2));
+        due(1, x.same(3, 2));
+        due(0, x.step(1, 1, 3));
+        due(0, x.set(4, 0, 0, 0, 4, 0, 1));
+        due(0, x.step(1, 1, 3));
+        due(0, x.time(3, 4, 0, 0));
+        due(1, x.same(3, 2));
     }
 
     private void divisorsInOrder() {
